@@ -1,0 +1,64 @@
+/** Counts the answers that are not as due, and prints each of them. */
+final class Checks {
+    interface Call {
+        Object answer();
+    }
+
+    interface Act {
+        void run();
+    }
+
+    static final Class<?> ARGUMENT = IllegalArgumentException.class;
+    static final Class<?> STATE = IllegalStateException.class;
+    static final Class<?> INDEX = IndexOutOfBoundsException.class;
+
+    private int wrong = 0;
+
+    void due(String what, long want, Call call) {
+        same(what, want, outcome(call));
+    }
+
+    void due(String what, boolean want, Call call) {
+        same(what, want, outcome(call));
+    }
+
+    /** The class must be the very one: what the Java machine throws by itself is a class below it. */
+    void dueThrow(String what, Class<?> want, Call call) {
+        same(what, want, outcome(call));
+    }
+
+    void same(String what, Object want, Object got) {
+        if (!want.equals(got)) {
+            wrong++;
+            System.out.println(what + " answered " + got + ", due is " + want);
+        }
+    }
+
+    boolean allRight() {
+        return wrong == 0;
+    }
+
+    void end() {
+        System.out.println(wrong == 0 ? "all answers are as due" : wrong + " answers are not as due");
+        if (wrong != 0) {
+            System.exit(1);
+        }
+    }
+
+    /** An answer as a Long or Boolean, or the class of what was thrown. */
+    static Object outcome(Call call) {
+        try {
+            Object answer = call.answer();
+            return answer instanceof Integer ? Long.valueOf((Integer) answer) : answer;
+        } catch (RuntimeException thrown) {
+            return thrown.getClass();
+        }
+    }
+
+    static Call act(Act act) {
+        return () -> {
+            act.run();
+            return 0L;
+        };
+    }
+}
