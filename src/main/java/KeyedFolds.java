@@ -129,7 +129,13 @@ public final class KeyedFolds {
         if (isLate(time)) {
             lateRows++;
         }
-        carryOut(code, key, time, v);
+        if (code == TAKEN) {
+            take(key, time, v);
+            letRowsLeave();
+            doTimers();
+        } else {
+            turnAway(code, key, time, v);
+        }
         return code;
     }
 
@@ -308,11 +314,8 @@ public final class KeyedFolds {
         return at < 0 ? keys.size() < MAX_KEYS : keys.get(at).count < MAX_ROWS;
     }
 
-    private void carryOut(int code, long key, long time, long v) {
+    private void turnAway(int code, long key, long time, long v) {
         switch (code) {
-            case TAKEN:
-                take(key, time, v);
-                break;
             case LATE_ASIDE:
                 putAside(key, time, v, CAUSE_LATE);
                 break;
@@ -354,8 +357,6 @@ public final class KeyedFolds {
         keys.get(at).take(time, v);
         takenRows++;
         greatestTime = Math.max(greatestTime, time);
-        letRowsLeave();
-        doTimers();
     }
 
     private long[] startStates() {
@@ -449,14 +450,14 @@ public final class KeyedFolds {
         long step(long s, long v, long gap, boolean isFirst) {
             switch (kind) {
                 case SUM: return s + v;
-                case MOST: return Math.max(s, v);
-                case LEAST: return Math.min(s, v);
+                case MOST: return s >= v ? s : v;
+                case LEAST: return s <= v ? s : v;
                 case LAST: return v;
                 case FIRST: return isFirst ? v : s;
                 case HASH: return s * p + v;
                 case COUNT: return s + 1;
                 case BITS: return s ^ (v * p);
-                default: return Math.max(s, gap);
+                default: return s >= gap ? s : gap;
             }
         }
 
@@ -660,8 +661,9 @@ public final class KeyedFolds {
 
         /** The number of the new line, or NONE if there was no room to keep it. */
         int addLine() {
+            int line = counted;
             counted++;
-            return counted <= limit ? counted - 1 : NONE;
+            return line >= 0 && line < limit ? line : NONE;
         }
 
         void set(int line, int what, long x) {

@@ -13,6 +13,7 @@ public final class RowTest {
         roomForKeys();
         whatThrowsChangesNothing();
         stoppedKeys();
+        resumedInAnyOrder();
         manyStoppedKeys();
         CHECKS.end();
     }
@@ -185,6 +186,26 @@ public final class RowTest {
         CHECKS.due("6: rows are taken again", 0, () -> x.row(1, 2, 1));
         CHECKS.due("6: it stops again", 4, () -> x.row(1, 2, 9));
         CHECKS.due("6: stopped again", 1, () -> x.key(1, 2));
+        CHECKS.due("6: a key that never came is not", 0, () -> x.key(0, 2));
+    }
+
+    private static void resumedInAnyOrder() {
+        long[][] orders = {{5, 6, 7}, {7, 6, 5}, {6, 5, 7}, {6, 7, 5}};
+        for (long[] order : orders) {
+            KeyedFolds x = sums(0, 0, 0, 0);
+            x.failsAt(0, 9);
+            for (long key = 5; key <= 7; key++) {
+                x.row(key, 0, 9);
+            }
+            for (int done = 0; done < 3; done++) {
+                x.resume(order[done]);
+                for (int i = 0; i < 3; i++) {
+                    long key = order[i];
+                    CHECKS.due("6: of three keys", i <= done ? 0 : 1, () -> x.key(key, 2));
+                }
+                CHECKS.due("6: a key that never came is not", 0, () -> x.key(0, 2));
+            }
+        }
     }
 
     private static void manyStoppedKeys() {
