@@ -12,7 +12,23 @@ final class Checks {
     static final Class<?> STATE = IllegalStateException.class;
     static final Class<?> INDEX = IndexOutOfBoundsException.class;
 
+    private int made = 0;
     private int wrong = 0;
+    private String words = "";
+
+    /** One test of a sentence of the document: what is wrong in it is printed behind the sentence's words. */
+    void sentence(String itsWords, Act test) {
+        int madeBefore = made;
+        words = "\"" + itsWords + "\": ";
+        try {
+            test.run();
+        } catch (RuntimeException thrown) {
+            wrong++;
+            System.out.println(words + "the test ended with " + thrown);
+        }
+        same("there are checks", true, made > madeBefore);
+        words = "";
+    }
 
     void due(String what, long want, Call call) {
         same(what, want, outcome(call));
@@ -28,9 +44,10 @@ final class Checks {
     }
 
     void same(String what, Object want, Object got) {
+        made++;
         if (!want.equals(got)) {
             wrong++;
-            System.out.println(what + " answered " + got + ", due is " + want);
+            System.out.println(words + what + " answered " + got + ", due is " + want);
         }
     }
 
