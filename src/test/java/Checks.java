@@ -68,8 +68,18 @@ final class Checks {
             Object answer = call.answer();
             return answer instanceof Integer ? Long.valueOf((Integer) answer) : answer;
         } catch (RuntimeException thrown) {
-            return thrown.getClass();
+            return isThrownByACall(thrown) ? thrown.getClass() : thrown + ", not by a throw of its own";
         }
+    }
+
+    /** A list of the library throws the very class that is due for an index: where it was made tells it apart. */
+    private static boolean isThrownByACall(RuntimeException thrown) {
+        StackTraceElement[] trace = thrown.getStackTrace();
+        if (trace.length == 0) {
+            return false;
+        }
+        String maker = trace[0].getClassName();
+        return maker.startsWith("KeyedFolds") || maker.startsWith("PlainModel");
     }
 
     static Call act(Act act) {

@@ -1,9 +1,8 @@
-import java.util.List;
 import java.util.Random;
 
-/** Long runs of calls, the same each time, whose answers and states are those of the plain model. */
+/** Runs of as many calls as an object is used for, the same each time, whose answers are those of the plain model. */
 public final class ModelRunsTest {
-    private static final int RUNS = 400;
+    private static final int RUNS = 3000;
     private static final int CALLS = 512;
     private static final Checks CHECKS = new Checks();
     private final Random random;
@@ -14,6 +13,7 @@ public final class ModelRunsTest {
     private final int values;
     private final int step;
     private final int spread;
+    private final int reads;
     private long now = 0;
 
     private ModelRunsTest(int run) {
@@ -29,6 +29,7 @@ public final class ModelRunsTest {
         values = of(3, 10, 1000);
         step = of(0, 1, 5, 40, 100000);
         spread = of(1, 10, 100);
+        reads = of(30, 60);
     }
 
     public static void main(String[] args) {
@@ -44,13 +45,13 @@ public final class ModelRunsTest {
 
     private void go() {
         int first = random.nextInt(9);
-        for (int i = 0; i < first; i++) {
-            makeFold();
-        }
         for (int i = 0; i < CALLS && CHECKS.allRight(); i++) {
-            act();
-            if (i % 8 == 0 || i == CALLS - 1) {
-                compareAll();
+            if (i < first) {
+                makeFold();
+            } else if (random.nextInt(100) < reads) {
+                read();
+            } else {
+                act();
             }
         }
     }
@@ -60,7 +61,7 @@ public final class ModelRunsTest {
         if (choice < 3) {
             makeFold();
         } else if (choice < 5) {
-            int fold = random.nextInt(8) - 1;
+            int fold = fold();
             long v = value();
             both("failsAt", () -> x.failsAt(fold, v), () -> model.failsAt(fold, v));
         } else if (choice < 10) {
@@ -95,72 +96,58 @@ public final class ModelRunsTest {
         return values == 1000 ? v * 0x9E3779B97F4A7C15L : v;
     }
 
+    /** Mostly a fold that is there. */
+    private int fold() {
+        return random.nextInt(10) == 0 ? of(-1, 6) : random.nextInt(Math.max(1, model.told(0)));
+    }
+
+    /** Mostly a number below the bound, at times one beside it. */
+    private int below(int bound) {
+        return random.nextInt(12) == 0 ? of(-1, bound) : random.nextInt(Math.max(1, bound));
+    }
+
+    private void read() {
+        long key = random.nextInt(keys + 1);
+        int fold = fold();
+        int count = below(9);
+        switch (random.nextInt(9)) {
+            case 0 -> both("state", () -> x.state(key, fold), () -> model.state(key, fold));
+            case 1 -> both("told(" + count + ")", () -> x.told(count), () -> model.told(count));
+            case 2 -> readKey(key);
+            case 3 -> readRow(key);
+            case 4 -> readAside();
+            case 5 -> readOutput();
+            case 6 -> both("watermark", () -> x.watermark(), () -> model.watermark());
+            case 7 -> both("folded", () -> x.folded(key), () -> model.folded(key));
+            default -> both("joined", () -> x.joined(fold), () -> model.joined(fold));
+        }
+    }
+
+    private void readKey(long key) {
+        int what = below(3);
+        both("key(" + key + ", " + what + ")", () -> x.key(key, what), () -> model.key(key, what));
+    }
+
+    private void readRow(long key) {
+        int i = below(model.key(key, 0));
+        int what = below(2);
+        String call = "rowOf(" + key + ", " + i + ", " + what + ")";
+        both(call, () -> x.rowOf(key, i, what), () -> model.rowOf(key, i, what));
+    }
+
+    private void readAside() {
+        int k = below(Math.min(102, model.told(2)));
+        int what = below(4);
+        both("aside(" + k + ", " + what + ")", () -> x.aside(k, what), () -> model.aside(k, what));
+    }
+
+    private void readOutput() {
+        int k = below(Math.min(302, model.told(3)));
+        int what = below(2 + model.told(0));
+        both("output(" + k + ", " + what + ")", () -> x.output(k, what), () -> model.output(k, what));
+    }
+
     private void both(String what, Checks.Call got, Checks.Call want) {
         CHECKS.same(name + ": " + what, Checks.outcome(want), Checks.outcome(got));
-    }
-
-    private void compareAll() {
-        model.counts[0] = model.folds.size();
-        model.counts[1] = model.keys.size();
-        model.counts[2] = model.asides.size();
-        model.counts[3] = model.outputs.size();
-        for (int what = 0; what < 9; what++) {
-            int one = what;
-            CHECKS.due(name + ": told(" + what + ")", model.counts[what], () -> x.told(one));
-        }
-        if (model.watermark == null) {
-            CHECKS.dueThrow(name + ": watermark()", Checks.STATE, () -> x.watermark());
-        } else {
-            CHECKS.due(name + ": watermark()", model.watermark, () -> x.watermark());
-        }
-        for (int key = 0; key < keys; key++) {
-            compareKey(key);
-        }
-        for (int fold = 0; fold < model.folds.size(); fold++) {
-            int one = fold;
-            CHECKS.due(name + ": joined", true, () -> x.joined(one));
-        }
-        compareLines("aside", model.asides, 100, (k, what) -> x.aside(k, what));
-        compareLines("output", model.outputs, 300, (k, what) -> x.output(k, what));
-    }
-
-    private void compareKey(long key) {
-        List<PlainModel.Row> rows = model.keys.getOrDefault(key, List.of());
-        CHECKS.due(name + ": rows", rows.size(), () -> x.key(key, 0));
-        CHECKS.due(name + ": work", model.work.getOrDefault(key, 0), () -> x.key(key, 1));
-        CHECKS.due(name + ": stopped", model.stopped.contains(key) ? 1 : 0, () -> x.key(key, 2));
-        CHECKS.dueThrow(name + ": a row too far", Checks.INDEX, () -> x.rowOf(key, rows.size(), 0));
-        for (int i = 0; i < rows.size(); i++) {
-            int one = i;
-            CHECKS.due(name + ": time", rows.get(i).time(), () -> x.rowOf(key, one, 0));
-            CHECKS.due(name + ": value", rows.get(i).v(), () -> x.rowOf(key, one, 1));
-        }
-        if (!model.keys.containsKey(key)) {
-            CHECKS.dueThrow(name + ": state", Checks.INDEX, () -> x.state(key, 0));
-            CHECKS.dueThrow(name + ": folded", Checks.INDEX, () -> x.folded(key));
-            return;
-        }
-        CHECKS.due(name + ": folded", true, () -> x.folded(key));
-        for (int f = 0; f < model.folds.size(); f++) {
-            int one = f;
-            CHECKS.due(name + ": state", model.state(rows, model.folds.get(f)), () -> x.state(key, one));
-        }
-    }
-
-    private interface Cell {
-        long at(int k, int what);
-    }
-
-    private void compareLines(String what, List<long[]> lines, int limit, Cell cell) {
-        int kept = Math.min(limit, lines.size());
-        for (int k = 0; k < kept; k++) {
-            int line = k;
-            for (int i = 0; i < lines.get(k).length; i++) {
-                int one = i;
-                CHECKS.due(name + ": " + what + " " + k + ", " + i, lines.get(k)[i], () -> cell.at(line, one));
-            }
-            CHECKS.dueThrow(name + ": " + what, Checks.INDEX, () -> cell.at(line, lines.get(line).length));
-        }
-        CHECKS.dueThrow(name + ": " + what + " too far", Checks.INDEX, () -> cell.at(kept, 0));
     }
 }

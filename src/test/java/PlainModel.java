@@ -11,15 +11,17 @@ final class PlainModel {
 
     record Fold(int kind, long start, long p, Set<Long> failing) { }
 
-    final List<Fold> folds = new ArrayList<>();
-    final Map<Long, List<Row>> keys = new LinkedHashMap<>();
-    final Map<Long, Integer> work = new LinkedHashMap<>();
-    final Set<Long> stopped = new LinkedHashSet<>();
-    final List<long[]> asides = new ArrayList<>();
-    final List<long[]> outputs = new ArrayList<>();
-    final int[] rules = new int[2];
-    final int[] counts = new int[9];
-    Long watermark = null;
+    private static final int MAX_ASIDES = 100;
+    private static final int MAX_OUTPUTS = 300;
+    private final List<Fold> folds = new ArrayList<>();
+    private final Map<Long, List<Row>> keys = new LinkedHashMap<>();
+    private final Map<Long, Integer> work = new LinkedHashMap<>();
+    private final Set<Long> stopped = new LinkedHashSet<>();
+    private final List<long[]> asides = new ArrayList<>();
+    private final List<long[]> outputs = new ArrayList<>();
+    private final int[] rules = new int[2];
+    private final int[] counts = new int[9];
+    private Long watermark = null;
     private final int lateness;
     private final int window;
     private final int ends;
@@ -88,7 +90,67 @@ final class PlainModel {
         return 0;
     }
 
-    long state(List<Row> rows, Fold fold) {
+    long state(long key, int fold) {
+        check(fold >= 0 && fold < folds.size() && keys.containsKey(key), new IndexOutOfBoundsException());
+        return stateOf(keys.get(key), folds.get(fold));
+    }
+
+    int key(long key, int what) {
+        check(what >= 0 && what <= 2, new IllegalArgumentException());
+        return switch (what) {
+            case 0 -> keys.getOrDefault(key, List.of()).size();
+            case 1 -> work.getOrDefault(key, 0);
+            default -> stopped.contains(key) ? 1 : 0;
+        };
+    }
+
+    long rowOf(long key, int i, int what) {
+        List<Row> rows = keys.getOrDefault(key, List.of());
+        check(i >= 0 && i < rows.size() && what >= 0 && what <= 1, new IndexOutOfBoundsException());
+        return what == 0 ? rows.get(i).time() : rows.get(i).v();
+    }
+
+    long aside(int k, int what) {
+        return cell(asides, MAX_ASIDES, k, what);
+    }
+
+    long output(int k, int what) {
+        return cell(outputs, MAX_OUTPUTS, k, what);
+    }
+
+    long watermark() {
+        check(watermark != null, new IllegalStateException());
+        return watermark;
+    }
+
+    int told(int what) {
+        check(what >= 0 && what <= 8, new IllegalArgumentException());
+        return switch (what) {
+            case 0 -> folds.size();
+            case 1 -> keys.size();
+            case 2 -> asides.size();
+            case 3 -> outputs.size();
+            default -> counts[what];
+        };
+    }
+
+    boolean folded(long key) {
+        check(keys.containsKey(key), new IndexOutOfBoundsException());
+        return true;
+    }
+
+    boolean joined(int fold) {
+        check(fold >= 0 && fold < folds.size(), new IndexOutOfBoundsException());
+        return true;
+    }
+
+    private static long cell(List<long[]> lines, int limit, int k, int what) {
+        check(k >= 0 && k < limit && k < lines.size(), new IndexOutOfBoundsException());
+        check(what >= 0 && what < lines.get(k).length, new IndexOutOfBoundsException());
+        return lines.get(k)[what];
+    }
+
+    private static long stateOf(List<Row> rows, Fold fold) {
         long s = fold.start();
         for (int i = 0; i < rows.size(); i++) {
             long v = rows.get(i).v();
@@ -163,7 +225,7 @@ final class PlainModel {
                     line[0] = moment;
                     line[1] = key;
                     for (int f = 0; f < folds.size(); f++) {
-                        line[2 + f] = state(below, folds.get(f));
+                        line[2 + f] = stateOf(below, folds.get(f));
                     }
                     outputs.add(line);
                 }

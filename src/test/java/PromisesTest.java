@@ -45,7 +45,8 @@ public final class PromisesTest {
         CHECKS.sentence("12: IllegalState: there is none", PromisesTest::watermark);
         CHECKS.sentence("13: where there is nothing yet", PromisesTest::toldOfNothing);
         CHECKS.sentence("13: How many", PromisesTest::toldOfEach);
-        CHECKS.sentence("13: LATE, under any RULE, also those that were DOUBLE or FAILED", PromisesTest::toldOfLateRows);
+        CHECKS.sentence("13: LATE, under any RULE, also those that were DOUBLE or FAILED",
+            PromisesTest::toldOfLateRows);
         CHECKS.sentence("13: IllegalArgument", PromisesTest::toldWhat);
         CHECKS.sentence("14: Whether a key's STATES are those of its rows folded anew", PromisesTest::folded);
         CHECKS.sentence("14: IndexOutOfBounds: it never had a row TAKEN", PromisesTest::foldedOfNoKey);

@@ -69,8 +69,8 @@ public final class StateTest {
     }
 
     private static void wrapAround() {
-        long[] wants = {Long.MIN_VALUE, Long.MAX_VALUE, 1, 1, Long.MAX_VALUE, (Long.MAX_VALUE * P + Long.MAX_VALUE) * P + 1,
-            0, Long.MAX_VALUE * P ^ P, 0};
+        long[] wants = {Long.MIN_VALUE, Long.MAX_VALUE, 1, 1, Long.MAX_VALUE,
+            (Long.MAX_VALUE * P + Long.MAX_VALUE) * P + 1, 0, Long.MAX_VALUE * P ^ P, 0};
         long[] starts = {0, 0, 5, 0, 0, Long.MAX_VALUE, -2, 0, 0};
         for (int kind = 0; kind <= 8; kind++) {
             KeyedFolds x = of(kind, starts[kind], P);

@@ -298,7 +298,8 @@ public final class TermsFoldsTest {
                 x.row(2, 10 + leave, 1);
                 int left = leave == 0 ? 0 : 5 - leave;
                 CHECKS.due("rows", 5 - leave, () -> x.key(1, 0));
-                CHECKS.due("kind " + kind + ", leave " + leave, 5 + (TAKEN_BACK[kind] ? leave : left), () -> x.key(1, 1));
+                int steps = TAKEN_BACK[kind] ? leave : left;
+                CHECKS.due("kind " + kind + ", leave " + leave, 5 + steps, () -> x.key(1, 1));
             }
         }
     }

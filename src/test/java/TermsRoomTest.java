@@ -15,12 +15,13 @@ public final class TermsRoomTest {
         CHECKS.sentence("rows of a key 60", TermsRoomTest::rowsOfAKeyAre60AtMost);
         CHECKS.sentence("60 at a time", TermsRoomTest::thereIsRoomAgainWhenRowsLeft);
         CHECKS.sentence("Of several the first one in the order of a call", TermsRoomTest::theFirstOfSeveral);
-        CHECKS.sentence("A call that throws changes nothing: a new object", TermsRoomTest::nothingChangesInANewObject);
-        CHECKS.sentence("A call that throws changes nothing: no room for a key", TermsRoomTest::nothingChangesWith30Keys);
-        CHECKS.sentence("A call that throws changes nothing: no room for a row", TermsRoomTest::nothingChangesWith60Rows);
-        CHECKS.sentence("A call that throws changes nothing: STOPPED", TermsRoomTest::nothingChangesWithAStoppedKey);
-        CHECKS.sentence("A call that throws changes nothing: RULE", TermsRoomTest::rulesStay);
-        CHECKS.sentence("A call that throws changes nothing: failsAt", TermsRoomTest::failingValuesStay);
+        String nothing = "A call that throws changes nothing";
+        CHECKS.sentence(nothing + ", in a new object", TermsRoomTest::nothingChangesInANewObject);
+        CHECKS.sentence(nothing + ", without room for a key", TermsRoomTest::nothingChangesWith30Keys);
+        CHECKS.sentence(nothing + ", without room for a row", TermsRoomTest::nothingChangesWith60Rows);
+        CHECKS.sentence(nothing + ", of a key that is STOPPED", TermsRoomTest::nothingChangesWithAStoppedKey);
+        CHECKS.sentence(nothing + ", of a RULE", TermsRoomTest::rulesStay);
+        CHECKS.sentence(nothing + ", of the values at which a fold FAILS", TermsRoomTest::failingValuesStay);
         CHECKS.end();
     }
 

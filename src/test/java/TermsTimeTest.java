@@ -18,7 +18,8 @@ public final class TermsTimeTest {
         CHECKS.sentence("the least first", TermsTimeTest::theLeastFirst);
         CHECKS.sentence("each key, in the order in which they came first", TermsTimeTest::keysAsTheyCameFirst);
         CHECKS.sentence("that has rows whose time is below m", TermsTimeTest::keysWithRowsBelow);
-        CHECKS.sentence("m, the key, and what each fold's STATE is of these rows alone", TermsTimeTest::statesOfTheseRows);
+        CHECKS.sentence("m, the key, and what each fold's STATE is of these rows alone",
+            TermsTimeTest::statesOfTheseRows);
         CHECKS.sentence("(But rows that leave at once with this WATERMARK are not among them.)",
             TermsTimeTest::rowsThatLeaveAreNotAmongThem);
         CHECKS.sentence("If there are more than 20 such m", TermsTimeTest::twentyOfMoreAtOnce);
