@@ -71,7 +71,8 @@ public final class KeyedFolds {
         if (folds.size() >= MAX_FOLDS) {
             throw new IllegalStateException("there are six folds");
         }
-        if (takenRows > 0) {
+        // A key is there as soon as a row was taken; its states are as many as the folds were then.
+        if (!keys.isEmpty()) {
             throw new IllegalStateException("a row was taken already");
         }
         folds.add(new Fold(kind, start, p));

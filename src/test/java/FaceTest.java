@@ -8,10 +8,20 @@ import java.util.TreeSet;
 /** The class has the face of the document and no other member that can be seen. */
 public final class FaceTest {
     private static final Set<String> FACE = Set.of(
-        "int fold(int, long, long)", "int failsAt(int, long)", "int rule(int, int)", "int row(long, long, long)",
-        "void resume(long)", "long state(long, int)", "int key(long, int)", "long rowOf(long, int, int)",
-        "long aside(int, int)", "long output(int, int)", "long watermark()", "int told(int)",
-        "boolean folded(long)", "boolean joined(int)");
+        "int fold(int, long, long) throws IllegalArgumentException, IllegalStateException",
+        "int failsAt(int, long) throws IndexOutOfBoundsException, IllegalStateException",
+        "int rule(int, int) throws IllegalArgumentException",
+        "int row(long, long, long) throws IllegalArgumentException, IllegalStateException",
+        "void resume(long) throws IllegalStateException",
+        "long state(long, int) throws IndexOutOfBoundsException",
+        "int key(long, int) throws IllegalArgumentException",
+        "long rowOf(long, int, int) throws IndexOutOfBoundsException",
+        "long aside(int, int) throws IndexOutOfBoundsException",
+        "long output(int, int) throws IndexOutOfBoundsException",
+        "long watermark() throws IllegalStateException",
+        "int told(int) throws IllegalArgumentException",
+        "boolean folded(long) throws IndexOutOfBoundsException",
+        "boolean joined(int) throws IndexOutOfBoundsException");
 
     public static void main(String[] args) {
         Checks checks = new Checks();
@@ -21,6 +31,9 @@ public final class FaceTest {
         for (Method method : face.getDeclaredMethods()) {
             if (!Modifier.isPrivate(method.getModifiers())) {
                 seen.add(written(method));
+                checks.same("public " + method.getName(), Modifier.PUBLIC, method.getModifiers());
+            } else {
+                checks.same("private, of a public one's name: " + method.getName(), false, isNameInFace(method));
             }
         }
         checks.same("methods", new TreeSet<>(FACE), seen);
@@ -37,11 +50,20 @@ public final class FaceTest {
         checks.end();
     }
 
+    private static boolean isNameInFace(Method method) {
+        return FACE.stream().anyMatch(call -> call.contains(" " + method.getName() + "("));
+    }
+
     private static String written(Method method) {
+        return method.getReturnType().getName() + " " + method.getName() + "(" + names(method.getParameterTypes())
+            + ") throws " + names(method.getExceptionTypes());
+    }
+
+    private static String names(Class<?>[] types) {
         StringBuilder text = new StringBuilder();
-        for (Class<?> type : method.getParameterTypes()) {
-            text.append(text.length() == 0 ? "" : ", ").append(type.getName());
+        for (Class<?> type : types) {
+            text.append(text.length() == 0 ? "" : ", ").append(type.getSimpleName());
         }
-        return method.getReturnType().getName() + " " + method.getName() + "(" + text + ")";
+        return text.toString();
     }
 }

@@ -4,6 +4,7 @@ import java.util.Random;
 public final class ModelRunsTest {
     private static final int RUNS = 3000;
     private static final int CALLS = 512;
+    private static final long LAST_TIME = 1L << 40;
     private static final Checks CHECKS = new Checks();
     private final Random random;
     private final String name;
@@ -14,14 +15,15 @@ public final class ModelRunsTest {
     private final int step;
     private final int spread;
     private final int reads;
-    private long now = 0;
+    private final long keySpan;
+    private long now;
 
     private ModelRunsTest(int run) {
         random = new Random(run);
         name = "run " + run;
         int lateness = of(0, 5, 20, 200000);
         int window = of(0, 1, 15, 60, 200000);
-        int ends = of(0, 0, 1, 4, -3);
+        int ends = of(0, 0, 1, 4, -3, 100001);
         int period = of(0, 1, 7, 30, 100001);
         x = new KeyedFolds(lateness, window, ends, period);
         model = new PlainModel(lateness, window, ends, period);
@@ -30,6 +32,8 @@ public final class ModelRunsTest {
         step = of(0, 1, 5, 40, 100000);
         spread = of(1, 10, 100);
         reads = of(30, 60);
+        keySpan = random.nextInt(3) == 0 ? Long.MIN_VALUE / 16 + 1 : 1;
+        now = random.nextInt(5) == 0 ? LAST_TIME - of(0, 300, 20000) : 0;
     }
 
     public static void main(String[] args) {
@@ -69,7 +73,7 @@ public final class ModelRunsTest {
             int rule = random.nextInt(5) - 1;
             both("rule", () -> x.rule(which, rule), () -> model.rule(which, rule));
         } else if (choice < 20) {
-            long key = random.nextInt(keys);
+            long key = key(keys);
             both("resume", Checks.act(() -> x.resume(key)), Checks.act(() -> model.resume(key)));
         } else {
             comeRow();
@@ -78,17 +82,21 @@ public final class ModelRunsTest {
 
     private void makeFold() {
         int kind = random.nextInt(10) == 0 ? of(-1, 9) : random.nextInt(9);
-        long start = random.nextBoolean() ? 0 : random.nextInt(20) - 10;
+        long start = random.nextBoolean() ? random.nextInt(20) - 10 : random.nextBoolean() ? 0 : random.nextLong();
         long p = random.nextLong();
         both("fold", () -> x.fold(kind, start, p), () -> model.fold(kind, start, p));
     }
 
     private void comeRow() {
-        now += random.nextInt(step + 1);
-        long key = random.nextInt(keys);
+        now = Math.min(LAST_TIME + 2, now + random.nextInt(step + 1));
+        long key = key(keys);
         long time = random.nextInt(300) == 0 ? of(-1, 0) : now - random.nextInt(spread);
         long v = value();
         both("row(" + key + ", " + time + ", " + v + ")", () -> x.row(key, time, v), () -> model.row(key, time, v));
+    }
+
+    private long key(int bound) {
+        return random.nextInt(bound) * keySpan;
     }
 
     private long value() {
@@ -107,7 +115,7 @@ public final class ModelRunsTest {
     }
 
     private void read() {
-        long key = random.nextInt(keys + 1);
+        long key = key(keys + 1);
         int fold = fold();
         int count = below(9);
         switch (random.nextInt(9)) {
